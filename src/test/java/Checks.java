@@ -21,7 +21,18 @@ final class Checks {
     void dueThrows(String what, Copestone yard, Class<? extends RuntimeException> want, Call call) {
         String before = Snapshot.of(yard);
         due(what, thrownBy(call), want.getSimpleName());
-        due(what + ", the yard behind it", Snapshot.of(yard), before);
+        due(what + ", the yard behind it", firstChange(before, Snapshot.of(yard)), "");
+    }
+
+    private static String firstChange(String before, String behind) {
+        String[] old = before.split("\n");
+        String[] now = behind.split("\n");
+        for (int i = 0; i < Math.min(old.length, now.length); i++) {
+            if (!old[i].equals(now[i])) {
+                return old[i] + " became " + now[i];
+            }
+        }
+        return before.equals(behind) ? "" : "something";
     }
 
     private static Object thrownBy(Call call) {
