@@ -1767,9 +1767,9 @@ public final class Copestone {
         private int findThrust() {
             reckonMoments();
             narrowThrusts();
-            for (int thrust = 1; thrust <= MOST_THRUST; thrust++) {
-                if (thrust >= leastToTry && thrust <= mostToTry && standsWith(thrust)) {
-                    return thrust;
+            for (long thrust = leastToTry; thrust <= mostToTry && thrust <= MOST_THRUST; thrust++) {
+                if (standsWith(thrust)) {
+                    return (int) thrust;
                 }
             }
             return 0;
@@ -1806,7 +1806,7 @@ public final class Copestone {
             }
         }
 
-        private boolean standsWith(int thrust) {
+        private boolean standsWith(long thrust) {
             long lowest = 0;
             long highest = GREATEST;
             for (int row = count; row >= 0 && row <= MOST && thrust > 0 && lowest <= highest; row--) {

@@ -172,6 +172,7 @@ public final class ArchTest {
 
     private void strikeFalls() {
         Copestone yard = archOf(5, 5, 900, 999, 5, 5, 0, 1);
+        checks.due("51: with its centre it is true", yard.isTrue(), true);
         yard.set();
         yard.set();
         checks.due("40: it falls", yard.strike(), false);
@@ -210,6 +211,11 @@ public final class ArchTest {
         Copestone outer = archOf(1, 7, 0, 999, 1, 1, 5, 5);
         outer.crown(0, 19);
         checks.due("41: 15 at the second joint are 20 less 15, at 1 not", outer.thrust(), 3);
+        Copestone half = archOf(1, 7, 5, 999, 1, 1, 0, 999);
+        half.crown(0, 9);
+        checks.due("41: 9 less 7 halves is above 5", half.thrust(), 2);
+        half.crown(0, 8);
+        checks.due("41: 8 less 7 thirds is above 5", half.thrust(), 3);
     }
 
     private void thrustRange() {
@@ -236,5 +242,10 @@ public final class ArchTest {
             yard.voussoir(i, 10, 37, 0, 999);
         }
         checks.due("41: 36 times 370 divided by 999", yard.thrust(), 14);
+        for (int i = 0; i < 8; i++) {
+            yard.voussoir(i, 1, 1, i == 7 ? 5 : 0, i == 7 ? 5 : 999);
+        }
+        yard.crown(0, 13);
+        checks.due("41: 36 by 6 at the outermost, by 5 is not whole", yard.thrust(), 6);
     }
 }

@@ -28,6 +28,8 @@ public final class LoadsTest {
         test.fall();
         test.fallTakesThroughs();
         test.fallLeaves();
+        test.fallOfTheBack();
+        test.fallTwice();
         test.checks.end();
     }
 
@@ -360,5 +362,33 @@ public final class LoadsTest {
         yard.lift(2);
         yard.lay(0, false, 0);
         checks.due("35: what was packed counts still", yard.room(0), 2);
+    }
+
+    private void fallOfTheBack() {
+        Copestone yard = wall(6, 4);
+        int low = lay(yard, 3, 1, 1, 0, false, 0);
+        int right = lay(yard, 3, 1, 1, 0, false, 3);
+        int middle = lay(yard, 2, 1, 1, 1, false, 2);
+        int top = lay(yard, 1, 1, 1, 2, false, 3);
+        yard.push(0, 100000);
+        checks.due("35: the back, with two above", yard.fall(), 3);
+        checks.due("35: the first", yard.state(low), 'h');
+        checks.due("35: the middle", yard.state(middle), 'h');
+        checks.due("35: the top", yard.state(top), 'h');
+        checks.due("35: the right one stays", yard.state(right), 'w');
+    }
+
+    private void fallTwice() {
+        Copestone yard = wall(6, 4);
+        int left = lay(yard, 3, 1, 1, 0, true, 0);
+        int right = lay(yard, 3, 1, 1, 0, true, 3);
+        yard.push(0, 100);
+        checks.due("35: the left one", yard.fall(), 1);
+        yard.lift(left);
+        yard.lay(0, true, 0);
+        yard.press(true, 0, 1000);
+        checks.due("35: now the right one alone", yard.fall(), 1);
+        checks.due("35: the left one lies", yard.state(left), 'w');
+        checks.due("35: the right one does not", yard.state(right), 'h');
     }
 }

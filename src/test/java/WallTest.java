@@ -14,6 +14,7 @@ public final class WallTest {
         WallTest test = new WallTest();
         test.build();
         test.newWallTakesThePlace();
+        test.newWallHasRoom();
         test.runs();
         test.runsOfTheWall();
         test.layWrong();
@@ -94,6 +95,25 @@ public final class WallTest {
         checks.due("18: nothing is packed", yard.room(0), 0);
     }
 
+    private void newWallHasRoom() {
+        Copestone yard = new Copestone();
+        for (int wall = 0; wall < 2; wall++) {
+            yard.build(4, 4, 0);
+            lay(yard, 4, 1, 1, 0, true, 0);
+            lay(yard, 4, 1, 1, 0, false, 0);
+            hold(yard, 2, 2, 1);
+            checks.due("18: nothing was packed before", yard.pack(0), 4);
+            hold(yard, 3, 1, 4);
+            checks.due("18: no cope was put before", yard.cope(), 3);
+        }
+        yard.push(0, 100000);
+        yard.fall();
+        yard.fall();
+        lay(yard, 4, 2, 4, 0, true, 0);
+        hold(yard, 3, 1, 4);
+        checks.due("22: no cope is left behind a fall", yard.cope(), 3);
+    }
+
     private void runs() {
         Copestone yard = new Copestone();
         checks.due("19: 1 at first", yard.runs(4), 1);
@@ -122,6 +142,11 @@ public final class WallTest {
         checks.dueThrows("19: one stone beside it is enough", yard, UNSUPPORTED, () -> yard.runs(2));
         yard.fall();
         checks.due("19: it runs up 2 now", yard.runs(2), 3);
+        lay(yard, 2, 1, 2, 0, true, 0);
+        lay(yard, 2, 1, 2, 1, true, 0);
+        checks.dueThrows("19: in the front too", yard, UNSUPPORTED, () -> yard.runs(1));
+        yard.build(4, 4, 0);
+        checks.due("19: a new wall has no joints", yard.runs(1), 2);
     }
 
     private void layWrong() {
@@ -469,6 +494,8 @@ public final class WallTest {
         lay(yard, 1, 1, 1, 0, false, 3);
         checks.due("26: all", yard.isComplete(0), true);
         checks.due("26: the next course", yard.isComplete(1), false);
+        lay(yard, 4, 1, 1, 1, false, 0);
+        checks.due("26: the back alone", yard.isComplete(1), false);
     }
 
     private void throughs() {
