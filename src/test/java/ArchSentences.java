@@ -123,6 +123,16 @@ final class ArchSentences extends Sentences {
         run.refuses(ELEMENT, "thrust");
         tell(run, 1, 1, 500, 500, 1, 1, 498, 498);
         run.is(1, "thrust");
+        run = says("Arches", "a whole height");
+        tell(run, 1, 2, 23, 23, 2, 1, 21, 22);
+        run.does("crown", 17, 25);
+        // with 3 the outer joint asks for 24 at the crown, the inner one for 23 and two thirds
+        run.refuses(ELEMENT, "thrust").is(2, "voussoir", 0, 1, 2, 23, 24).is(2, "thrust").is(17, "crown", 17, 24).is(3, "thrust");
+        tell(run, 3, 6, 18, 19, 2, 1, 16, 17);
+        run.does("crown", 10, 29);
+        run.is(6, "thrust");
+        tell(run, 1, 2, 23, 23, 1, 1, 0, 999, 1, 1, 0, 999, 1, 1, 0, 999, 1, 1, 0, 999, 1, 1, 0, 999, 1, 1, 0, 999, 1, 1, 9, 10);
+        run.refuses(ELEMENT, "thrust").is(8, "voussoir", 0, 1, 2, 23, 24).is(3, "thrust");
     }
 
     private void withinHeights() {
@@ -180,6 +190,9 @@ final class ArchSentences extends Sentences {
         tell(run, 20, 1000, 998, 998, 1, 1, 0, 999);
         setAll(run, 2);
         run.is(true, "strike").is(20000, "thrust").is(true, "isTrue").refuses(UNSUPPORTED, "strike").is(2, "arch", 2);
+        tell(run, 1, 1, 0, 999, 1, 1, 0, 999);
+        setAll(run, 2);
+        run.is(true, "strike").is(1, "thrust").is(true, "isTrue");
     }
 
     private void arch() {
@@ -194,6 +207,19 @@ final class ArchSentences extends Sentences {
         setAll(run, 2);
         run.is(true, "strike").is(2, "arch", 3).refuses(UNSUPPORTED, "set").refuses(UNSUPPORTED, "strike");
         run.refuses(UNSUPPORTED, "thrust").is(0, "crown", 9, 9).is(1, "voussoir", 2, 1, 1, 0, 999).is(2, "set");
+        for (int stones = 8; stones >= 2; stones--) {
+            run = says(36, "in place of the one before");
+            run.does("arch", 8);
+            for (int index = 0; index < 8; index++) {
+                run.does("voussoir", index, 99, 9999, 0, 0);
+            }
+            run.refuses(ELEMENT, "thrust").is(7, "set").is(1, "arch", stones).refuses(UNSUPPORTED, "set");
+            for (int index = stones - 1; index >= 0; index--) {
+                run.refuses(UNSUPPORTED, "thrust").is(stones - index, "voussoir", index, 1, 1, 0, 999);
+            }
+            run.is(1, "thrust");
+            setAll(run, stones);
+        }
         run = says(36, "Throws `IllegalArgumentException` if a number is out of range");
         for (int wrong : new int[] {1, 9, 0, -1, LEAST, MOST}) {
             run.refuses(ARGUMENT, "arch", wrong);

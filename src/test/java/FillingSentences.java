@@ -12,6 +12,7 @@ final class FillingSentences extends Sentences {
         fromTheFirstFreePlace();
         belowFull();
         joints();
+        jointsAtTheEnds();
         jointsOfOtherCourses();
         nothingElse();
         fewest();
@@ -163,6 +164,23 @@ final class FillingSentences extends Sentences {
         due(run, 2, true, 4, 6, 5);
         run.does("runs", 3);
         due(run, 2, true, 6, 7);
+    }
+
+    private void jointsAtTheEnds() {
+        for (boolean isFront : new boolean[] {true, false}) {
+            Run run = says("Filling", "no joint of what is laid in this skin may run up too far");
+            run.does("build", 6, 6, 0);
+            run.lay(1, 2, 1, 0, isFront, 0);
+            run.lay(4, 2, 1, 0, isFront, 1);
+            run.lay(1, 2, 1, 0, isFront, 5);
+            heap(run, 5, 1);
+            dueNone(run, 1, isFront);
+            due(run, 0, !isFront, 3, 4);
+            heap(run, 4, 2);
+            due(run, 1, isFront, 5, 6);
+            run.does("runs", 2);
+            due(run, 1, isFront, 3, 4);
+        }
     }
 
     private void jointsOfOtherCourses() {

@@ -205,6 +205,14 @@ final class GapSentences extends Sentences {
         run.is(1, "meet", 4, 5, true).is(4, "meet", 5, 3, false).refuses(UNSUPPORTED, "meet", 0, 4, false);
         run.refuses(UNSUPPORTED, "meet", 4, 0, true).refuses(UNSUPPORTED, "meet", 1, 4, true).is(4, "meet", 4, 0, false);
         run.is(3, "meet", 3, 0, false);
+        int[][] rings = {{0, 1, 2}, {1, 2, 0}, {2, 0, 1}, {0, 2, 1}, {2, 1, 0}, {1, 0, 2}, {7, 0, 6}, {0, 7, 6}, {6, 7, 0}};
+        for (int[] ring : rings) {
+            run = says(46, "if a wall would be younger than itself");
+            walls(run, 8);
+            run.is(2, "meet", ring[0], ring[1], false).is(2, "meet", ring[1], ring[2], false).is(3, "phase", ring[0]);
+            run.refuses(UNSUPPORTED, "meet", ring[2], ring[0], false).refuses(UNSUPPORTED, "meet", ring[2], ring[0], true);
+            run.refuses(UNSUPPORTED, "meet", ring[0], ring[2], true).is(3, "meet", ring[0], ring[2], false);
+        }
     }
 
     private void phase() {

@@ -336,6 +336,20 @@ final class LoadSentences extends Sentences {
             run.does("lay", 2 - stone, true, 0);
             run.is(80, "loadOn", stone);
         }
+        run = says("Pushes", "it and all that lie on what falls");
+        wall(run, 4, 4, 0);
+        run.lay(2, 1, 1, 0, true, 0);
+        run.lay(2, 1, 1, 0, true, 2);
+        run.does("press", true, 2, 100000L);
+        run.is(0, "push", 0, 1000L).is(1, "fall").is('h', "state", 0);
+        run.does("lift", 0);
+        run.does("lay", 0, false, 0);
+        run.lay(1, 1, 1, 1, false, 0);
+        run.does("press", false, 1, 100000L);
+        run.does("push", 0, 0L);
+        run.is(0, "push", 1, 1000L).is(2, "mover").is(1, "fall").is('w', "state", 0).is('h', "state", 2);
+        run.lay(1, 1, 1, 0, true, 1);
+        run.is(0, "push", 0, 1000L).is(3, "mover").is(1, "fall").is('w', "state", 0).is('w', "state", 1).is(true, "isTrue");
     }
 
     private void fallsByOnePlace() {

@@ -112,6 +112,13 @@ final class WallSentences extends Sentences {
         run.lay(4, 2, 1, 0, true, 0);
         run.lay(4, 2, 1, 0, false, 0);
         run.is(16, "room", 0).is(40, "loadOn", 3);
+        run = says("The wall", "A new wall takes the place of the one before");
+        run.does("build", 4, 4, 0);
+        for (int course = 0; course < 8; course++) {
+            run.lay(4, 1, 4, course, true, 0);
+        }
+        run.is(2, "build", 4, 4, 2).is('g', "state", 7).is(true, "isTrue").is(8, "build", 4, 4, 0);
+        run.refuses(ELEMENT, "at", 7, true, 0).refuses(ELEMENT, "at", 2, false, 3).is(false, "isComplete", 7).is(true, "isTrue");
     }
 
     private void skins() {
@@ -399,6 +406,17 @@ final class WallSentences extends Sentences {
         run.is(0, "lay", 0, true, 3);
         run.hold(2, 1, 1);
         run.is(0, "lay", 1, true, 2).is(true, "isTrue");
+        for (boolean isFront : new boolean[] {true, false}) {
+            run = says("Joints", "A stone is refused if by it a joint of it would run up farther.");
+            run.does("build", 6, 4, 0);
+            run.lay(1, 1, 1, 0, isFront, 0);
+            run.lay(4, 1, 1, 0, isFront, 1);
+            run.lay(1, 1, 1, 0, isFront, 5);
+            run.hold(1, 1, 1);
+            run.refuses(UNSUPPORTED, "lay", 1, isFront, 0).refuses(UNSUPPORTED, "lay", 1, isFront, 5);
+            run.refuses(UNSUPPORTED, "lay", 1, isFront, 1).refuses(UNSUPPORTED, "lay", 1, isFront, 4);
+            run.is(0, "lay", 1, isFront, 3);
+        }
     }
 
     private void build() {
@@ -606,6 +624,14 @@ final class WallSentences extends Sentences {
             run.is(place, "throughs", 0);
         }
         run.is(0, "throughs", 1);
+        run.does("build", 4, 4, 0);
+        run.lay(1, 1, 4, 0, false, 0);
+        run.is(1, "throughs", 0);
+        run.lay(2, 1, 5, 0, true, 2);
+        run.is(2, "throughs", 0);
+        run.does("build", 4, 4, 0);
+        run.lay(4, 1, 4, 0, true, 0);
+        run.is(1, "throughs", 0);
         run = says(27, "Throws `IllegalStateException` if there is no wall");
         run.refuses(STATE, "throughs", 0).refuses(STATE, "throughs", -1).refuses(STATE, "throughs", 8);
         dueCourses(27, "throughs");
