@@ -376,7 +376,8 @@ final class QuarrySentences extends Sentences {
         run.refuses(ARGUMENT, "pass", 0).refuses(ARGUMENT, "pass", 100).is(1, "pass", 1).is(100, "pass", 99);
         says(16, "Returns the day then, 0 at first.").is(1, "pass", 1).is(3, "pass", 2);
         run = says(16, "Returns the day then");
-        for (int i = 1; i <= 400; i++) {
+        // as many calls as one object is used for
+        for (int i = 1; i <= 512; i++) {
             run.is(99 * i, "pass", 99);
         }
         run = says(16, "Throws `IllegalArgumentException` if a number is out of range");
