@@ -1838,13 +1838,13 @@ public final class Copestone {
 
         /** The index of the next gap, NONE without one; the sheep by length are compared as fractions. */
         int indexOfNext() {
-            int next = count > 0 ? 0 : NONE;
+            int next = 0;
             for (int i = 1; i < count && i < MOST; i++) {
                 if (sheep[i] * lengths[next] > sheep[next] * lengths[i]) {
                     next = i;
                 }
             }
-            return next;
+            return count > 0 ? next : NONE;
         }
 
         int lengthOf(int index) {
