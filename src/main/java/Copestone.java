@@ -1364,7 +1364,7 @@ public final class Copestone {
                 return;
             }
             for (int i = 0; i <= top.number; i++) {
-                bearOnlyItself(courseAt(i));
+                bearOnlyThemselves(courseAt(i));
             }
             for (int i = 0; i < copeCount; i++) {
                 Stone cope = copeAt(i);
@@ -1378,7 +1378,7 @@ public final class Copestone {
             }
         }
 
-        private void bearOnlyItself(Course course) {
+        private void bearOnlyThemselves(Course course) {
             for (int place = 0; course != null && place < length; place++) {
                 bearOnlyItself(course.beginning(true, place));
                 bearOnlyItself(course.beginning(false, place));
@@ -1577,7 +1577,7 @@ public final class Copestone {
             gatherChoices(heap, course.height);
             gatherEnds(wall, course, isFront);
             Arrays.fill(known, 0);
-            int fewest = fewestFrom(0, first, 0);
+            int fewest = fewestFrom(this, 0, first, 0);
             if (fewest >= CANNOT_BE) {
                 return NONE;
             }
@@ -1615,30 +1615,30 @@ public final class Copestone {
         }
 
         /** The fewest stones that fill from a place on, with some already laid; each level lays one of the 12. */
-        private int fewestFrom(int laid, int place, int depth) {
-            if (place == end) {
+        private static int fewestFrom(Filling search, int laid, int place, int depth) {
+            if (place == search.end) {
                 return 0;
             }
-            if (depth >= MOST_CHOICES || laid < 0 || laid >= known.length) {
+            if (depth >= MOST_CHOICES || laid < 0 || laid >= search.known.length) {
                 return CANNOT_BE;
             }
-            if (known[laid] != 0) {
-                return known[laid] - 1;
+            if (search.known[laid] != 0) {
+                return search.known[laid] - 1;
             }
             int fewest = CANNOT_BE;
             int triedLength = 0;
-            for (int i = 0; i < choiceCount && i < MOST_CHOICES; i++) {
+            for (int i = 0; i < search.choiceCount && i < MOST_CHOICES; i++) {
                 // choices of one length are side by side in the heap, and fill alike
-                if ((laid >> i & 1) != 0 || lengths[i] == triedLength) {
+                if ((laid >> i & 1) != 0 || search.lengths[i] == triedLength) {
                     continue;
                 }
-                triedLength = lengths[i];
-                if (canEndAt(place + triedLength)) {
-                    int more = fewestFrom(laid | 1 << i, place + triedLength, depth + 1);
+                triedLength = search.lengths[i];
+                if (search.canEndAt(place + triedLength)) {
+                    int more = fewestFrom(search, laid | 1 << i, place + triedLength, depth + 1);
                     fewest = Math.min(fewest, more + 1);
                 }
             }
-            known[laid] = fewest + 1;
+            search.known[laid] = fewest + 1;
             return fewest;
         }
 
@@ -1661,7 +1661,7 @@ public final class Copestone {
         private int firstThatKeeps(int laid, int place, int depth, int more) {
             for (int i = 0; i < choiceCount && i < MOST_CHOICES; i++) {
                 boolean isFree = (laid >> i & 1) == 0 && canEndAt(place + lengths[i]);
-                if (isFree && fewestFrom(laid | 1 << i, place + lengths[i], depth) == more) {
+                if (isFree && fewestFrom(this, laid | 1 << i, place + lengths[i], depth) == more) {
                     return i;
                 }
             }

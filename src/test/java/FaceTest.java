@@ -28,6 +28,7 @@ public final class FaceTest {
         test.namesAreNotTaken();
         test.classesAreSmall();
         test.sourceKeepsTo(Files.readString(main));
+        test.recursionIsStatic(Files.readString(main));
         test.checks.end();
     }
 
@@ -146,5 +147,23 @@ public final class FaceTest {
                 checks.due("lines from " + begin, isClass || line - begin <= 60, true);
             }
         }
+    }
+
+    /** A method that calls itself, by its bare name, is private and static, and carries its depth. */
+    private void recursionIsStatic(String source) {
+        Matcher method = Pattern.compile("(?ms)^( +)([\\w\\[\\] ]*?)\\b(\\w+)\\(([^)]*)\\)[^;{}]*\\{\\n(.*?)^\\1\\}").matcher(source);
+        int methods = 0;
+        int recursions = 0;
+        for (int from = 0; method.find(from); from = method.start(5)) {
+            boolean isMethod = !method.group(2).isBlank() && !method.group(2).contains("else") && !method.group(2).contains("new");
+            methods += isMethod ? 1 : 0;
+            if (isMethod && Pattern.compile("(?<![.\\w])" + method.group(3) + "\\(").matcher(method.group(5)).find()) {
+                recursions++;
+                checks.due(method.group(3) + " calls itself, so it is", method.group(2).contains("private static "), true);
+                checks.due(method.group(3) + " calls itself, with its depth", method.group(4).contains("int depth"), true);
+            }
+        }
+        checks.due("methods were read", methods > 150, true);
+        checks.due("methods that call themselves", recursions, 1);
     }
 }

@@ -7,6 +7,7 @@ import java.util.HashMap;
 import java.util.List;
 import java.util.Map;
 import java.util.Objects;
+import java.util.TreeSet;
 
 /**
  * A run of calls on a new yard, each told by its name. A refused call is tried on a twin of the yard too, and then
@@ -44,6 +45,16 @@ final class Run {
             }
         }
         return face;
+    }
+
+    /** The names of all calls, in their order. */
+    static List<String> names() {
+        return new ArrayList<>(new TreeSet<>(FACE.keySet()));
+    }
+
+    /** The types that a call is told, none if there is no such call. */
+    static Class<?>[] typesOf(String name) {
+        return FACE.containsKey(name) ? FACE.get(name).getParameterTypes() : new Class<?>[0];
     }
 
     /** The answer of a call, whole numbers as long ones; the exception's name behind "throws." if it throws. */
